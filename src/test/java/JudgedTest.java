@@ -4,6 +4,7 @@ public final class JudgedTest {
 
     public static void main(String[] args) {
         weight();
+        weightByDefinition();
         order();
         share();
         ride();
@@ -31,6 +32,40 @@ public final class JudgedTest {
         D.due("status()", x.status(), 0);
         D.due("weight of nothing", x.weight(1, 36), Due.NULL);
         D.due("status()", x.status(), 1);
+    }
+
+    /** The sum over all ways to give a stage to each knot, one by one. */
+    private static void weightByDefinition() {
+        int p = 1999999973;
+        TreeSteps x = new TreeSteps(p);
+        long[] a = {p - 1, p - 2, 1999999901, 5, 123456789, 987654321, 1, 0, 1333333333};
+        long[] b = {p - 1, 1777777777, 77};
+        Due.whole(x, 0, 3, a[0], a[1], a[2], a[3], a[4], a[5], a[6], a[7], a[8], b[0], b[1], b[2]);
+        for (int tree = 0; tree < 37; tree++) {
+            StringBuilder row = new StringBuilder();
+            for (int k = 0; k < x.tree(tree, 0); k++) {
+                row.append(x.level(tree, k));
+            }
+            int[] parents = TreesTest.parents(row.toString());
+            long sum = 0;
+            for (int way = 0; way < Math.pow(3, parents.length); way++) {
+                sum = (sum + product(a, b, parents, way, p)) % p;
+            }
+            D.due("weight(0, " + tree + ")", x.weight(0, tree), sum);
+        }
+    }
+
+    private static long product(long[] a, long[] b, int[] parents, int way, long p) {
+        int[] stage = new int[parents.length];
+        for (int k = 0; k < stage.length; k++) {
+            stage[k] = way % 3;
+            way /= 3;
+        }
+        long product = b[stage[0]];
+        for (int k = 1; k < stage.length; k++) {
+            product = product * a[3 * stage[parents[k]] + stage[k]] % p;
+        }
+        return product;
     }
 
     private static void dueOrder(TreeSteps x, int place, int order, int misfit) {
