@@ -788,6 +788,7 @@ public final class TreeSteps {
         private final int[] row;
 
         Stages(int s) {
+            // all callers keep to 1 .. 8; this keeps the row's length safe by its own lines
             count = s < 1 ? 1 : Math.min(s, MOST_STAGES);
             row = new int[count * count + count];
         }

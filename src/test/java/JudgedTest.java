@@ -195,6 +195,9 @@ public final class JudgedTest {
         Due.whole(x, 4, 1, 0, 0);
         D.due("done and undone is nothing", x.alike(3, 4, 6), 1);
         differsLate(x);
+        Due.whole(x, 5, 1, 0, 1);
+        D.due("they differ at one knot alone", x.alike(4, 5, 6), 0);
+        D.due("they differ at one knot alone", x.alike(5, 4, 1), 0);
         int[][] bad = {{0, 1, 0}, {0, 1, 7}, {-1, 0, 1}, {10, 0, 1}, {0, -1, 1}, {0, 10, 1}, {9, 9, 0}};
         for (int[] b : bad) {
             D.due("alike(" + b[0] + ", " + b[1] + ", " + b[2] + ")", x.alike(b[0], b[1], b[2]), Due.BAD);

@@ -18,7 +18,8 @@ public final class SheetsTest {
             D.due("count(5) of " + p, new TreeSteps(p).count(5), p);
         }
         int[] others = {97, 100, 102, 99, 0, 1, 2, -1, -101, 10201, 10403, 1999073521, 1999999999, 2000000000,
-            2000000011, 2147483647, Integer.MIN_VALUE, 121, 169, 105, 1105};
+            2000000011, 2147483647, Integer.MIN_VALUE, 121, 169, 105, 1105, 128, 202,
+            1999999946};
         for (int p : others) {
             D.due("count(5) of " + p, new TreeSteps(p).count(5), 998244353);
         }
