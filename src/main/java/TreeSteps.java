@@ -699,15 +699,15 @@ public final class TreeSteps {
         /** Each TREE at the root is taken off once: this tells from what the TREE is made by hanging. */
         private void takeApart(int tree) {
             int[] row = levels[tree];
-            int start = 1;
-            while (start < knots[tree]) {
-                int end = hangingEnd(tree, start);
-                int off = numbered(code(row, start, end, 1));
-                int left = numbered(codeWithout(row, knots[tree], start, end));
-                hung[left][off] = tree;
-                rest[tree] = left;
-                last[tree] = off;
-                start = end;
+            for (int start = 1; start < knots[tree]; start++) {
+                if (row[start] == 1) {
+                    int end = hangingEnd(tree, start);
+                    int off = numbered(code(row, start, end, 1));
+                    int left = numbered(codeWithout(row, knots[tree], start, end));
+                    hung[left][off] = tree;
+                    rest[tree] = left;
+                    last[tree] = off;
+                }
             }
         }
 
