@@ -8,6 +8,9 @@ import java.util.List;
 public final class RefusalsTest {
     private static final Due D = new Due();
     private static final int MARKED = 3;
+    // of the sheets that ready() makes
+    private static final int[] LANES = {2, 0, 1, 2, -1, -1, -1, 2};
+    private static final int[] LENGTHS = {5, 3, 3, 0, -1, -1, -1, 4};
 
     public static void main(String[] args) {
         sheets();
@@ -48,7 +51,10 @@ public final class RefusalsTest {
         return x;
     }
 
-    /** All that can be seen but status(); what it takes to see the sheets spoils the object. */
+    /**
+     * All that can be seen but status(); what it takes to see the sheets spoils the object. Calls that are found come
+     * last, as they would do to the twin, too, what they must not do.
+     */
     private static List<List<Long>> seen(Run x) {
         List<List<Long>> seen = new ArrayList<>();
         List<Long> counts = new ArrayList<>();
@@ -62,32 +68,37 @@ public final class RefusalsTest {
         }
         seen.add(trace);
         for (int place = 0; place < 10; place++) {
-            List<Long> one = x.seen(place);
-            one.add(x.call("order", place, 1));
-            seen.add(one);
+            seen.add(placeSeen(x, place));
         }
-        seen.add(List.of(x.call("drop", 6)));
-        for (int sheet : new int[] {0, 1, 2, 3, 4, 5, 7}) {
+        for (int sheet : new int[] {0, 1, 2, 7}) {
             seen.add(items(x, sheet));
+        }
+        for (int sheet = 0; sheet < 8; sheet++) {
+            seen.add(List.of(x.call("drop", sheet)));
         }
         return seen;
     }
 
-    /** By way of sheet 6 and place 9: into which lanes a sheet can be copied, its items, and how many. */
+    private static List<Long> placeSeen(Run x, int place) {
+        if (x.call("is", place, 0) != 1) {
+            return List.of();
+        }
+        List<Long> seen = x.seen(place);
+        seen.add(x.call("order", place, 1));
+        return seen;
+    }
+
+    /** All items of a sheet that ready() made, by way of sheet 6 (of the same lane) and place 9. */
     private static List<Long> items(Run x, int sheet) {
         List<Long> seen = new ArrayList<>();
-        for (int lane = 0; lane < 3; lane++) {
-            x.call("sheet", 6, lane, 4);
-            long answer = x.call("copy", sheet, 0, 6, 0, 0);
-            seen.add(answer);
-            x.call("set", 6, 1, 1);
-            x.call("set", 6, 3, 1);
-            for (int i = 0; answer == 0 && x.call("copy", sheet, i, 6, 0, 1) == 1; i++) {
-                x.call("table", 9, 6, 0, 1);
-                seen.add(x.call("number", 9, 0, 0));
-            }
+        x.call("sheet", 6, LANES[sheet], 4);
+        x.call("set", 6, 1, 1);
+        x.call("set", 6, 3, 1);
+        for (int i = 0; i < LENGTHS[sheet]; i++) {
+            seen.add(x.call("copy", sheet, i, 6, 0, 1));
+            x.call("table", 9, 6, 0, 1);
+            seen.add(x.call("number", 9, 0, 0));
         }
-        seen.add(x.call("drop", sheet));
         return seen;
     }
 

@@ -201,6 +201,12 @@ public final class TermsEdgesTest {
             D.due("a fraction by " + lower, x.table(0, 1, lower, 1, 1), Due.BAD);
         }
         x.dueTable(0, 1, 1, 1, 42);
+        D.about("the number that makes 1 with v: modulo the greatest prime, too");
+        Run great = run(1999999973);
+        for (long v : new long[] {2, 3, 1999999972, 1999999971, 999999986, 999999987, 1L << 30, (1L << 30) - 1, -2}) {
+            great.table(0, 1, v, v, 1);
+            D.due("v by 1 times 1 by v", great.call("number", 0, 0, 0) * great.call("number", 0, 1, 0) % 1999999973, 1);
+        }
     }
 
     private static void knots() {
